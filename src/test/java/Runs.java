@@ -1,0 +1,79 @@
+import java.lang.reflect.InvocationTargetException;
+import java.lang.reflect.Method;
+
+/**
+ * Runs of calls written as the document writes its examples: "step(1) = 1; step(7) = throws
+ * IllegalArgumentException". Prints each call whose answer is not the one that is due.
+ */
+final class Runs {
+    private int wrong;
+    private int calls;
+
+    /** Makes the calls on a new object. */
+    SlewPlanner run(String title, String... lines) {
+        SlewPlanner planner = new SlewPlanner();
+        go(title, planner, lines);
+        return planner;
+    }
+
+    /** Makes the calls on an object. */
+    void go(String title, SlewPlanner planner, String... lines) {
+        for (String call : String.join(";", lines).split(";")) {
+            if (!call.isBlank()) {
+                int middle = call.indexOf('=');
+                String due = call.substring(middle + 1).trim();
+                same(title + ": " + call.substring(0, middle).trim(), due,
+                        answer(planner, call.substring(0, middle).trim()));
+            }
+        }
+    }
+
+    void same(String what, Object due, Object got) {
+        calls++;
+        if (!String.valueOf(due).equals(String.valueOf(got))) {
+            wrong++;
+            System.out.println(what + " answered " + got + ", due is " + due);
+        }
+    }
+
+    /** Ends the program: with 1 if an answer was wrong, or if there was none at all. */
+    void end() {
+        System.out.println(calls + " answers, " + wrong + " wrong");
+        System.exit(wrong == 0 && calls > 0 ? 0 : 1);
+    }
+
+    static String answer(Object planner, String call) {
+        int bracket = call.indexOf('(');
+        String inside = call.substring(bracket + 1, call.lastIndexOf(')')).trim();
+        String[] words = inside.isEmpty() ? new String[0] : inside.split(",");
+        return answer(planner, method(planner, call.substring(0, bracket).trim()), words);
+    }
+
+    static String answer(Object planner, Method method, String[] words) {
+        Object[] arguments = new Object[words.length];
+        for (int i = 0; i < words.length; i++) {
+            if (method.getParameterTypes()[i] == long.class) {
+                arguments[i] = Long.parseLong(words[i].trim());
+            } else {
+                arguments[i] = Integer.parseInt(words[i].trim());
+            }
+        }
+        try {
+            return String.valueOf(method.invoke(planner, arguments));
+        } catch (InvocationTargetException e) {
+            return "throws " + e.getCause().getClass().getSimpleName();
+        } catch (IllegalAccessException e) {
+            throw new AssertionError(e);
+        }
+    }
+
+    static Method method(Object planner, String name) {
+        for (Method method : planner.getClass().getDeclaredMethods()) {
+            if (method.getName().equals(name)
+                    && java.lang.reflect.Modifier.isPublic(method.getModifiers())) {
+                return method;
+            }
+        }
+        throw new AssertionError("no method " + name);
+    }
+}
