@@ -27,6 +27,13 @@ public final class Model {
     }
 
     private static final List<Cell> CELLS = listCells();
+    private static final List<List<Integer>> NEIGHBOURS = new ArrayList<>();
+
+    static {
+        for (int cell = 0; cell < CELLS.size(); cell++) {
+            NEIGHBOURS.add(listNeighbours(cell));
+        }
+    }
 
     private State now = new State(
             List.of(List.of(1, 0, 0), List.of(0, 1, 0), List.of(0, 0, 1)),
@@ -55,7 +62,7 @@ public final class Model {
         return cells;
     }
 
-    private static List<Integer> neighbours(int cell) {
+    private static List<Integer> listNeighbours(int cell) {
         List<Integer> found = new ArrayList<>();
         Cell a = CELLS.get(cell);
         for (int i = 0; i < CELLS.size(); i++) {
@@ -67,6 +74,10 @@ public final class Model {
             }
         }
         return found;
+    }
+
+    private static List<Integer> neighbours(int cell) {
+        return NEIGHBOURS.get(cell);
     }
 
     private static int coordinateOf(int cell, int coordinate) {

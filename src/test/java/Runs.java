@@ -9,15 +9,14 @@ final class Runs {
     private int wrong;
     private int calls;
 
-    /** Makes the calls on a new object. */
-    SlewPlanner run(String title, String... lines) {
-        SlewPlanner planner = new SlewPlanner();
-        go(title, planner, lines);
-        return planner;
+    /** Makes the calls on a new object, and on a new model, so that the judge is judged too. */
+    void run(String title, String... lines) {
+        go(title, new SlewPlanner(), lines);
+        go(title + " (the model)", new Model(), lines);
     }
 
     /** Makes the calls on an object. */
-    void go(String title, SlewPlanner planner, String... lines) {
+    void go(String title, Object planner, String... lines) {
         for (String call : String.join(";", lines).split(";")) {
             if (!call.isBlank()) {
                 int middle = call.indexOf('=');
