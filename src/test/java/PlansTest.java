@@ -82,6 +82,14 @@ final class PlansTest {
                 "firstBright(0, 0) = 8; parkingCell(7) = 0; parkingSteps(7) = 0; parkingCell(8) = 2",
                 "parkingSteps(8) = 2; parkingCell(40) = 2; parkingSteps(40) = 2; step(0) = 1",
                 "parkingSteps(6) = 0; parkingSteps(7) = 2; parkingCell(7) = 2");
+        // The half that is bright changes at the time 30 for one object, and at 60 for the other.
+        runs.run("29 and 30 a parking cell after 60 steps",
+                "setAxis(0, 30, 30, 30) = 0; setDrift(0, -1, -1, -1) = 0; setCone(0, 1) = 75",
+                "setAxis(1, 60, 60, -60) = 75; setDrift(1, -1, -1, 1) = 75; setCone(1, 1) = 106",
+                "parkingSteps(30) = 0; parkingSteps(31) = 60; parkingSteps(40) = 60",
+                "parkingCell(30) = 0; parkingCell(31) = 42; parkingCell(40) = 42",
+                "setAxis(1, 61, 61, -61) = 106; parkingSteps(40) = -9; parkingCell(40) = -9",
+                "step(0) = 1; parkingSteps(40) = 60");
         runs.run("29 and 30 no parking cell", TURNING,
                 "parkingCell(5) = 0; parkingSteps(5) = 0; parkingCell(6) = -9; parkingSteps(6) = -9");
     }

@@ -64,6 +64,11 @@ final class RequestsTest {
                 "requestFinish(1) = 10; bestValue() = 15; bestOrder() = 21; step(0) = 1",
                 "bestValue() = 10; bestOrder() = 12; close() = 1",
                 "bestValue() = throws IllegalStateException; bestOrder() = throws IllegalStateException");
+        runs.run("32 and 33 the objects of the present state", SOON,
+                "addRequest(0, 20, 10) = 0; addRequest(12, 6, 5) = 1; bestOrder() = 21",
+                "setCone(0, 0) = 0; bestOrder() = 12; undo() = 5; bestOrder() = 21; save(0) = 0",
+                "setCone(0, 0) = 0; bestValue() = 15; bestOrder() = 12; restore(0) = 0",
+                "bestOrder() = 21");
         runs.run("32 and 33 what is worth more", SOON,
                 // Only one of the two can be done before the cell 12 is bright.
                 "addRequest(12, 6, 5) = 0; addRequest(12, 5, 7) = 1; bestValue() = 7; bestOrder() = 21",
