@@ -1,3 +1,6 @@
+import java.util.ArrayList;
+import java.util.List;
+
 /** Promises 1 to 4: a new object, coordinate, cellOf, neighbour. */
 final class CellsTest {
     private static final int[] WILD = {
@@ -62,9 +65,9 @@ final class CellsTest {
     }
 
     private static void allCells(Runs runs) {
-        SlewPlanner planner = new SlewPlanner();
         long before = Long.MIN_VALUE;
         for (int cell = 0; cell < 150; cell++) {
+            SlewPlanner planner = new SlewPlanner();
             int x = planner.coordinate(cell, 0);
             int y = planner.coordinate(cell, 1);
             int z = planner.coordinate(cell, 2);
@@ -77,9 +80,9 @@ final class CellsTest {
     }
 
     private static void allVectors(Runs runs) {
-        SlewPlanner planner = new SlewPlanner();
         int cells = 0;
         for (int x = -7; x <= 7; x++) {
+            SlewPlanner planner = new SlewPlanner();
             for (int y = -7; y <= 7; y++) {
                 for (int z = -7; z <= 7; z++) {
                     int due = isCell(x, y, z) ? cells++ : -9;
@@ -104,22 +107,31 @@ final class CellsTest {
     }
 
     private static void allNeighbours(Runs runs) {
-        SlewPlanner planner = new SlewPlanner();
+        List<int[]> vectors = new ArrayList<>();
         for (int cell = 0; cell < 150; cell++) {
+            SlewPlanner planner = new SlewPlanner();
+            vectors.add(new int[] {
+                planner.coordinate(cell, 0), planner.coordinate(cell, 1), planner.coordinate(cell, 2)});
+        }
+        for (int cell = 0; cell < 150; cell++) {
+            SlewPlanner planner = new SlewPlanner();
             int k = 0;
             for (int other = 0; other < 150; other++) {
-                int distance = 0;
-                for (int c = 0; c < 3; c++) {
-                    int d = planner.coordinate(cell, c) - planner.coordinate(other, c);
-                    distance += d * d;
-                }
-                if (other != cell && distance <= 4) {
+                if (other != cell && distance(vectors.get(cell), vectors.get(other)) <= 4) {
                     runs.same("4 neighbour " + cell + " " + k, other, planner.neighbour(cell, k));
                     k++;
                 }
             }
             runs.same("4 the number of neighbours of " + cell, 4, k);
         }
+    }
+
+    private static int distance(int[] one, int[] other) {
+        int distance = 0;
+        for (int c = 0; c < 3; c++) {
+            distance += (one[c] - other[c]) * (one[c] - other[c]);
+        }
+        return distance;
     }
 
     private static void wild(Runs runs) {

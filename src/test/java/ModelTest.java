@@ -3,8 +3,9 @@ import java.util.Random;
 
 /** Random runs of calls, each answer judged by the model. The seeds are fixed. */
 final class ModelTest {
-    private static final int RUNS = 600;
-    private static final int CALLS = 150;
+    private static final int RUNS = 1000;
+    /** With the questions for the state behind each, and the sweep, they stay below 512. */
+    private static final int CALLS = 90;
 
     private static final String[] CHEAP = {
         "coordinate", "cellOf", "neighbour", "direction", "cone", "cosine", "isBright",

@@ -57,10 +57,10 @@ final class ObjectsTest {
 
     /** Each digit of the cosine is due, for many directions, short ones and long ones. */
     private static void sameAsTheFormula(Runs runs, int i) {
-        SlewPlanner planner = new SlewPlanner();
-        planner.setAxis(0, i * 37 % 199 - 99, i * 71 % 199 - 99, i * 11 % 199 - 99);
-        planner.setDrift(0, i % 19 - 9, i * 5 % 19 - 9, i * 3 % 19 - 9);
         for (int time = 0; time <= 300; time++) {
+            SlewPlanner planner = new SlewPlanner();
+            planner.setAxis(0, i * 37 % 199 - 99, i * 71 % 199 - 99, i * 11 % 199 - 99);
+            planner.setDrift(0, i % 19 - 9, i * 5 % 19 - 9, i * 3 % 19 - 9);
             int cell = (time * 7 + i) % 150;
             double p = 0;
             double v = 0;

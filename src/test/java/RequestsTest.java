@@ -1,7 +1,8 @@
 /** Promises 31 to 33: requestFinish, bestValue, bestOrder. */
 final class RequestsTest {
     /** The cell 12 alone is bright, from the time 11 on. */
-    private static final String SOON = "setAxis(0, 10, 0, 0) = 0; setDrift(0, -1, 0, 0) = 0; setCone(0, 95) = 1;";
+    private static final String SOON =
+            "setAxis(0, 10, 0, 0) = 0; setDrift(0, -1, 0, 0) = 0; setCone(0, 95) = 1;";
     /** An object that comes over the position at the time 8. */
     private static final String COMING =
             "setAxis(0, -5, 20, 20) = 0; setDrift(0, 0, -3, -3) = 0; setCone(0, 90) = 10;";
