@@ -88,6 +88,14 @@ final class PlanEdgesTest {
                 "setAxis(0, -40, 0, 16) = 0; setDrift(0, 5, 0, -2) = 0; setCone(0, 97) = 1",
                 "slew(12) = 4; arrival(13) = 4; planCell(13, 0) = 12; planCell(13, 1) = 7",
                 "planCell(13, 2) = 7; planCell(13, 3) = 8; planCell(13, 4) = 13");
+        runs.run("the lexicographically smallest: only what the step before leads to",
+                // At the clock 9: 18 is bright until 12, 7 always, and 12 from 11 on.
+                "slew(12) = 4; step(12) = 5; step(12) = 6; step(12) = 7; step(12) = 8; step(12) = 9",
+                "setAxis(0, -65, 26, 26) = 0; setDrift(0, 5, -2, -2) = 0; setCone(0, 97) = 1",
+                "setAxis(1, -5, -2, 0) = 1; setCone(1, 97) = 2; setAxis(2, 10, 0, 0) = 2",
+                "setDrift(2, -1, 0, 0) = 2; setCone(2, 95) = 3; arrival(18) = 4",
+                "planCell(18, 0) = 12; planCell(18, 1) = 11; planCell(18, 2) = 16",
+                "planCell(18, 3) = 17; planCell(18, 4) = 18");
         runs.run("a plan with that number of steps, not a smaller one that is longer",
                 "slew(12) = 4; planCell(13, 1) = 13; planCell(17, 1) = 17; planCell(17, 2) = -9");
         runs.run("27 one plan after another",
@@ -175,6 +183,11 @@ final class PlanEdgesTest {
                 "randomWalk(-9223372036854775808, 1) = 5");
         runs.run("34 the clock of the copy is not limited to 200", Scenes.LATE,
                 "randomWalk(5, 60) = 7; clock() = 200; position() = 1");
+        runs.run("34 the walk ends where both are bright, though they are dark again later",
+                "setAxis(0, -10, 99, 99) = 0; setDrift(0, 0, -9, -9) = 0; setCone(0, 80) = 16",
+                "randomWalk(5, 11) = 1; randomWalk(5, 12) = 1; randomWalk(5, 60) = 1",
+                "isBright(1, 12) = true; isBright(1, 60) = false; randomWalk(4, 60) = 5",
+                "randomWalk(7, 60) = 26; randomWalk(11, 60) = 22; randomWalk(18, 60) = 7");
         runs.run("34 where all is bright from the next time on, the walk ends at once", Scenes.DAY,
                 "pass(10) = 10; open() = 10; randomWalk(0, 1) = 0; randomWalk(7, 60) = 0");
     }

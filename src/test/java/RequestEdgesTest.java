@@ -117,6 +117,9 @@ final class RequestEdgesTest {
         runs.run("32 and 33 four requests", Scenes.FULL,
                 "requestFinish(0) = 1; requestFinish(1) = 24; requestFinish(2) = 17",
                 "bestValue() = 110; bestOrder() = 1234");
+        runs.run("32 and 33 four requests of the greatest value",
+                "addRequest(0, 1, 99) = 0; addRequest(0, 1, 99) = 1; addRequest(0, 1, 99) = 2",
+                "addRequest(0, 1, 99) = 3; bestValue() = 396; bestOrder() = 1234");
         runs.run("32 and 33 four requests, none of which can be fulfilled", Scenes.DAY,
                 "addRequest(0, 1, 99) = 0; addRequest(1, 1, 99) = 1; addRequest(0, 1, 1) = 2",
                 "addRequest(149, 20, 99) = 3; pass(10) = 10; open() = 10; requestFinish(0) = -9",

@@ -9,6 +9,7 @@ final class UndoEdgesTest {
         allOfTheState(runs);
         slots(runs);
         slotsAreNotState(runs);
+        presentObjects(runs);
         allNumbersOther(runs);
         lastCall(runs);
         runs.end();
@@ -144,6 +145,43 @@ final class UndoEdgesTest {
                 "addRequest(1, 1, 1) = 1; removeRequest(0) = 1; setAxis(0, 0, 0, 5) = 0; close() = 0",
                 "restore(0) = 0; requestCount() = 1; requestFinish(0) = 7; isClosed() = false",
                 "direction(0, 0, 0) = 1; direction(0, 2, 0) = 0");
+    }
+
+    /** What each question answers while the object is switched on, and while it is off. */
+    private static void presentObjects(Runs runs) {
+        String[][] flash = {
+            {"isBright(0, 5)", "true", "false"}, {"brightCells(5)", "1", "0"},
+            {"firstBright(0, 0)", "5", "-9"}, {"reachableCells(5)", "50", "51"},
+            {"parkingSteps(5)", "1", "0"}, {"parkingCell(5)", "1", "0"},
+            {"requestFinish(0)", "11", "5"}};
+        String[][] leaving = {
+            {"arrival(1)", "10", "1"}, {"planCell(1, 1)", "0", "1"}, {"planCell(6, 1)", "5", "1"},
+            {"randomWalk(2, 1)", "0", "1"}};
+        String requests = "addRequest(0, 5, 5) = 0; addRequest(1, 20, 3) = 1; addRequest(2, 20, 2) = 2;";
+        String eight = requests + "addRequest(2, 8, 1) = 3;";
+        String twelve = requests + "addRequest(2, 12, 1) = 3;";
+        presentObject(runs, Scenes.FLASH + eight, "bestOrder()", "2134", "1234");
+        presentObject(runs, Scenes.FLASH + twelve, "bestValue()", "10", "11");
+        for (String[] asked : flash) {
+            presentObject(runs, Scenes.FLASH + eight, asked[0], asked[1], asked[2]);
+        }
+        for (String[] asked : leaving) {
+            presentObject(runs, Scenes.LEAVING + eight, asked[0], asked[1], asked[2]);
+        }
+    }
+
+    /** The question comes at once behind the call that changes the objects, or is refused. */
+    private static void presentObject(
+            Runs runs, String before, String question, String with, String without) {
+        String on = question + " = " + with + ";";
+        String off = question + " = " + without + ";";
+        String title = "the objects of the present state, " + question;
+        runs.run(title + ", after an action", before, on, "setCone(0, 0) = 0;", off);
+        runs.run(title + ", after an undo", before, "setCone(0, 0) = 0;", off, "undo() = 7;", on);
+        runs.run(title + ", after a restore", before, "save(0) = 0; setCone(0, 0) = 0;", off,
+                "restore(0) = 0;", on);
+        runs.run(title + ", after a refused call", before, on,
+                "setAxis(0, -5, -4, -4) = throws IllegalStateException;", on);
     }
 
     /** Every number of every object is another one in the slot. */
